@@ -84,6 +84,9 @@ public final class MarksTest {
         Checks.throwsDue(x, "markKeys of two more into one", FULL, x::markKeys);
         Checks.due("isMarked(5)", x.isMarked(5), false);
         Checks.due("isMarked(6)", x.isMarked(6), false);
+        x.remove(1000);
+        x.remove(1199);
+        Checks.throwsDue(x, "markKeys of just two into one", FULL, x::markKeys);
         x.unmark(1101);
         Checks.due("markKeys of two more into two", x.markKeys(), 200);
         Checks.due("isMarked(5)", x.isMarked(5), true);

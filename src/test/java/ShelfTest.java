@@ -225,6 +225,7 @@ public final class ShelfTest {
             x.lay(key, key);
         }
         keysAre(x, 2, 3, 4);
+        Checks.due("valueAt(0)", x.valueAt(0), 2);
         Checks.due("usedAt(2)", x.usedAt(2), 6);
     }
 

@@ -201,6 +201,10 @@ public final class TableTest {
         Checks.due("get(1)", x.get(1), 11);
         Checks.due("computeIfPresent(1, 2) takes out", x.computeIfPresent(1, 2), NONE);
         Checks.due("containsKey(1)", x.containsKey(1), false);
+        x.put(1, 10);
+        Checks.due("computeIfPresent(1, 5) is 15", x.computeIfPresent(1, 5), 15);
+        x.put(1, 6);
+        Checks.due("computeIfPresent(1, 10) is 2", x.computeIfPresent(1, 10), 2);
         x.put(1, 5);
         Checks.due("computeIfPresent(1, 20) is -10", x.computeIfPresent(1, 20), NONE);
         x.put(1, 5);
@@ -265,6 +269,10 @@ public final class TableTest {
         Checks.due("get(7)", x.get(7), 63);
         x.remove(7);
         Checks.throwsDue(x, "fill of two into one", FULL, () -> x.fill(7, MIN, 64));
+        Checks.throwsDue(x, "fill of two by a step into one", FULL, () -> x.fill(5, 1995, 2));
+        Checks.due("fill of one and one that is there into one", x.fill(5, 1145, 2), 200);
+        Checks.due("get(1150)", x.get(1150), 1);
+        x.remove(5);
         x.remove(1001);
         Checks.due("fill of two again and again", x.fill(7, MIN, 64), 200);
         Checks.due("get(7)", x.get(7), 62);
@@ -298,6 +306,8 @@ public final class TableTest {
         Checks.due("get(23)", x.get(23), NONE);
         Checks.due("dropBelow(MAX)", x.dropBelow(MAX), 2);
         Checks.due("get(3)", x.get(3), MAX);
+        x.put(4, 1);
+        Checks.due("dropBelow(2) of the latest pair", x.dropBelow(2), 1);
         Checks.due("size()", x.size(), 1);
     }
 
@@ -327,6 +337,13 @@ public final class TableTest {
         Checks.throwsDue(x, "putShelf of one more when full", FULL, x::putShelf);
         Checks.due("get(1000)", x.get(1000), -1);
         x.remove(1100);
+        x.take(1199);
+        x.lay(6, 6);
+        Checks.throwsDue(x, "putShelf of two more into one", FULL, x::putShelf);
+        x.take(1000);
+        Checks.throwsDue(x, "putShelf of just two into one", FULL, x::putShelf);
+        x.take(6);
+        x.lay(1000, -3);
         Checks.due("putShelf of the 200th", x.putShelf(), 200);
         Checks.due("get(5)", x.get(5), 5);
     }
@@ -345,6 +362,9 @@ public final class TableTest {
         Checks.due("marked()", x.marked(), 1);
         Checks.due("length()", x.length(), 1);
         Checks.due("put after clear", x.put(1000, 3), NONE);
+        Checks.due("get after clear", x.get(1000), 3);
+        Checks.due("containsValue after clear", x.containsValue(63), false);
+        Checks.due("sumOfValues after clear", x.sumOfValues(), 3);
         Checks.due("size()", x.size(), 1);
     }
 
