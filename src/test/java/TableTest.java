@@ -260,6 +260,7 @@ public final class TableTest {
     private static void fillToTheBrim() {
         MapsByUse x = full();
         Checks.due("fill over 64 that are there when full", x.fill(1000, 1, 64), 200);
+        Checks.due("fill by a step over 64 that are there when full", x.fill(1199, -3, 64), 200);
         Checks.due("fill of none when full", x.fill(1, 1, 0), 200);
         Checks.throwsDue(x, "fill of one more when full", FULL, () -> x.fill(1, 1, 1));
         Checks.throwsDue(x, "fill of a last one more when full", FULL, () -> x.fill(1150, 1, 51));
