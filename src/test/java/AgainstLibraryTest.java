@@ -49,7 +49,7 @@ public final class AgainstLibraryTest {
                 wrongRuns++;
             }
         }
-        Checks.end("AgainstLibraryTest");
+        Checks.end("AgainstLibraryTest", args);
     }
 
     private boolean isRunAsDue(int run) throws ReflectiveOperationException {

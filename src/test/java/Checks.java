@@ -1,9 +1,31 @@
-/** What the tests share: answers that are due, exceptions that are due, and the end with its exit code. */
+import java.util.ArrayList;
+import java.util.List;
+import java.util.function.Consumer;
+import java.util.function.Supplier;
+
+/** What the tests share: the sentence that is looked at, answers and exceptions that are due, and the exit code. */
 final class Checks {
     static final long NONE = 4294967296L;
+    private static final List<String> SENTENCES = new ArrayList<>();
+    private static String sentence = "";
     private static int wrong = 0;
 
     private Checks() {
+    }
+
+    /** From here on it is this sentence of a promise that is looked at. */
+    static void promise(int number, String told) {
+        sentence("Promise " + number, told);
+    }
+
+    /** From here on it is this sentence of the document's Terms, or of what it is, that is looked at. */
+    static void terms(String told) {
+        sentence("Terms", told);
+    }
+
+    private static void sentence(String where, String told) {
+        sentence = where + ": \"" + told + "\"";
+        SENTENCES.add(sentence);
     }
 
     static void due(String call, long got, long want) {
@@ -20,42 +42,46 @@ final class Checks {
 
     static void fault(String what) {
         wrong++;
-        System.out.println(what);
+        System.out.println(sentence.isEmpty() ? what : sentence + "\n    " + what);
     }
 
-    /** The call must throw just this exception, and must leave all that can be seen as it was. */
-    static void throwsDue(MapsByUse x, String call, Class<? extends Exception> due, Runnable body) {
-        String before = seen(x);
-        Class<?> thrown = null;
+    /**
+     * The call must throw just this exception and change nothing: an object that refused it and one that never got it
+     * must tell the same. Each look is at objects made anew, so that none goes beyond its 512 calls.
+     */
+    static void refused(String call, Class<? extends RuntimeException> due, Supplier<MapsByUse> made,
+            Consumer<MapsByUse> body) {
+        for (Seen.Part part : Seen.Part.values()) {
+            MapsByUse x = made.get();
+            Class<?> thrown = thrownBy(x, body);
+            if (thrown != due) {
+                fault(call + " threw " + thrown + ", due is " + due);
+                return;
+            }
+            String after = Seen.of(part, x);
+            String without = Seen.of(part, made.get());
+            if (!after.equals(without)) {
+                fault(call + " threw and changed " + part + " from " + without + " to " + after);
+            }
+        }
+    }
+
+    private static Class<?> thrownBy(MapsByUse x, Consumer<MapsByUse> body) {
         try {
-            body.run();
+            body.accept(x);
         } catch (RuntimeException e) {
-            thrown = e.getClass();
+            return e.getClass();
         }
-        if (thrown != due) {
-            fault(call + " threw " + thrown + ", due is " + due);
-        }
-        String after = seen(x);
-        if (!after.equals(before)) {
-            fault(call + " threw and changed " + before + " to " + after);
-        }
+        return null;
     }
 
-    private static String seen(MapsByUse x) {
-        StringBuilder all = new StringBuilder();
-        all.append("table ").append(x.size()).append(' ').append(x.sumOfKeys());
-        all.append(' ').append(x.sumOfValues()).append(' ').append(x.sum());
-        all.append(" words ").append(x.words()).append(x.words() == 0 ? "" : " " + x.mostOften());
-        all.append(" marks ").append(x.marked());
-        all.append(" shelf ").append(x.length()).append(' ').append(x.walk()).append(' ').append(x.dropped());
-        for (int place = 0; place < x.length(); place++) {
-            all.append(' ').append(x.usedAt(x.keyAt(place)));
+    /** With an argument, the run tells each sentence that it looked at. */
+    static void end(String test, String... args) {
+        if (args.length > 0) {
+            SENTENCES.forEach(System.out::println);
         }
-        return all.toString();
-    }
-
-    static void end(String test) {
-        System.out.println(test + (wrong == 0 ? ": all is as due" : ": " + wrong + " faults"));
+        String looked = SENTENCES.isEmpty() ? "" : ", " + SENTENCES.size() + " sentences";
+        System.out.println(test + looked + ": " + (wrong == 0 ? "all is as due" : wrong + " faults"));
         if (wrong != 0) {
             System.exit(1);
         }

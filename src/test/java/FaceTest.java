@@ -32,7 +32,7 @@ public final class FaceTest {
         constructors();
         methods();
         fields();
-        Checks.end("FaceTest");
+        Checks.end("FaceTest", args);
     }
 
     private static void constructors() {
